@@ -595,7 +595,7 @@ public final class PairedField {
             counted[indexOf(left)] = found;
         }
 
-        /** The partner of the first seat that comes first in the order among those with which the least cost is kept. */
+        /** Of the partners of the first seat with which the least cost is kept, the one that is first in the order. */
         private int bestPartner(int left, int first) {
             for (int second = first + 1; second < seats; second++) {
                 int rest = indexOf(without(left, first, second));

@@ -243,7 +243,7 @@ final class Model {
         return 64 * difference * difference + clashes(p, white == p) + clashes(q, white == q);
     }
 
-    /** Lists all ways, in the order of the first's opponent, the next's, and so on: the first with the least cost stays. */
+    /** Lists all ways, by the place of the first's opponent, then of the next's: the first of the least cost stays. */
     private void listWays(List<Integer> left, List<int[]> made, int cost, int[][] costs) {
         if (left.isEmpty()) {
             ways++;

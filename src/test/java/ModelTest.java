@@ -22,6 +22,10 @@ public final class ModelTest {
     private final Model model;
     /** How likely the calls of this run are to change who is in or kept apart, of 100. */
     private final int unrest;
+    /** How many of 10 such calls let a player go out. */
+    private final int leaving;
+    /** What the one who is white gets in most games, or any result when it is 3. */
+    private final int trend;
     private int calls = 0;
 
     private ModelTest(int run) {
@@ -31,6 +35,8 @@ public final class ModelTest {
         field = new PairedField(players);
         model = new Model(players);
         unrest = random.nextInt(4) * 8;
+        leaving = random.nextInt(5) == 0 ? 5 : 1;
+        trend = random.nextInt(4);
     }
 
     public static void main(String[] args) {
@@ -88,10 +94,10 @@ public final class ModelTest {
 
     private void changePlayers() {
         int what = random.nextInt(10);
-        if (what < 3) {
-            enter();
-        } else if (what == 3) {
+        if (what < leaving) {
             leave(somePlayer());
+        } else if (what < leaving + 3) {
+            enter();
         } else {
             apart(somePlayer(), somePlayer(), random.nextInt(3) > 0);
         }
@@ -173,11 +179,12 @@ public final class ModelTest {
     }
 
     private void reportAll() {
-        // Much alike results leave scores together, so that colours and the order decide.
-        int drawn = random.nextInt(4);
         for (int p = 0; p < model.in.size(); p++) {
             if (canReport(p)) {
-                report(p, random.nextInt(4) < drawn ? 1 : random.nextInt(3));
+                // Results alike keep the scores together, so that colours and the order decide.
+                boolean alike = trend < 3 && random.nextInt(8) > 0;
+                int ofWhite = alike ? trend : random.nextInt(3);
+                report(p, model.openGame(p).white == p ? ofWhite : 2 - ofWhite);
             }
         }
     }

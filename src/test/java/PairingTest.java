@@ -1,5 +1,15 @@
 /** Promises 5 to 9: pairing a round, its cost, in how many ways it could be, opponents and colours. */
 public final class PairingTest {
+    /** Six rounds, each the opponents two and two, after which player 5 has balance 4 when all games are drawn. */
+    private static final int[][] TO_BALANCE_FOUR = {
+        {0, 4, 1, 11, 2, 3, 5, 9, 6, 10, 7, 8},
+        {0, 7, 1, 5, 2, 6, 3, 8, 4, 11, 9, 10},
+        {0, 1, 2, 10, 3, 9, 4, 7, 5, 6, 8, 11},
+        {0, 2, 1, 4, 3, 10, 5, 8, 6, 7, 9, 11},
+        {0, 10, 1, 6, 2, 8, 3, 11, 4, 9, 5, 7},
+        {0, 6, 1, 10, 2, 5, 3, 4, 7, 11, 8, 9},
+    };
+
     public static void main(String[] args) {
         firstRounds();
         byScores();
@@ -9,6 +19,7 @@ public final class PairingTest {
         colours();
         clashes();
         noClashAfterOneGame();
+        balanceBeyondThree();
         pairExceptions();
         oneOrNobodyIn();
         sixteenClosed();
@@ -194,6 +205,36 @@ public final class PairingTest {
         Check.due("no clash after one game each", field.cost(), 0);
     }
 
+    private static void balanceBeyondThree() {
+        PairedField field = new PairedField(12);
+        for (int p = 0; p < 12; p++) {
+            for (int q = p + 1; q < 12; q++) {
+                field.apart(p, q, true);
+            }
+        }
+        // Third round: 5 is white and 9 black a third time, with balances 3 and -3: two clashes each.
+        // Fourth: 8 is white a third time in a row, with balance 2: one.
+        // Fifth: 2 and 11 as 5 and 9 in the third; 5 and 9 come back to 3 and -3 after another colour: one each.
+        // Sixth: 2 and 5 have balance 3; 5, who had black and then white, is white and has 4: one.
+        int[] costs = {0, 0, 4, 1, 6, 1};
+        for (int r = 0; r < costs.length; r++) {
+            for (int i = 0; i < 12; i += 2) {
+                field.apart(TO_BALANCE_FOUR[r][i], TO_BALANCE_FOUR[r][i + 1], false);
+            }
+            Check.due("one way in round " + r, field.ways(), 1);
+            Check.due("cost in round " + r, field.cost(), costs[r]);
+            Fields.playDrawnRound(field);
+        }
+        Check.due("balance 4", field.tell(5, 1), 4);
+        for (int p = 0; p < 12; p++) {
+            for (int q = p + 1; q < 12; q++) {
+                field.apart(p, q, false);
+            }
+        }
+        // Whoever plays 5 has less balance: 5 is black, and the balance becomes 3.
+        Check.due("a balance that falls to 3 is a clash", field.cost(), 1);
+    }
+
     private static void pairExceptions() {
         PairedField field = new PairedField(2);
         Check.due("pair of two", field.pair(), 1);
@@ -244,6 +285,7 @@ public final class PairingTest {
         field.apart(0, 2, true);
         Check.throwsState("of two exceptions the first", () -> field.pair());
         Check.throwsElement("cost when 16 are closed and they can't be paired", () -> field.cost());
+        Check.throwsState("of two exceptions the first, after cost", () -> field.pair());
         Check.due("ways of none", field.ways(), 0);
     }
 
