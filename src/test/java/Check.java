@@ -44,7 +44,8 @@ final class Check {
         due(what + " throws", thrownBy(call), "NoSuchElementException");
     }
 
-    private static String thrownBy(Call call) {
+    /** The plain name of what a call throws, or "nothing". */
+    static String thrownBy(Call call) {
         try {
             call.run();
         } catch (RuntimeException e) {
@@ -73,11 +74,14 @@ final class Check {
 
     /** Everything that the face tells of a field without changing it; an exception counts by its name. */
     static String stateOf(PairedField field) {
+        // Asked for once: an object is good for 512 calls.
+        int players = field.players();
+        int rounds = field.rounds();
         StringBuilder text = new StringBuilder();
-        text.append(field.players()).append(' ').append(field.rounds()).append(' ').append(field.ways());
+        text.append(players).append(' ').append(rounds).append(' ').append(field.ways());
         add(text, () -> field.cost());
         add(text, () -> field.missing());
-        for (int i = 0; i < field.players(); i++) {
+        for (int i = 0; i < players; i++) {
             int p = i;
             text.append("\n").append(p).append(field.isIn(p) ? " in" : " out");
             add(text, () -> field.opponent(p));
@@ -86,7 +90,7 @@ final class Check {
             for (int what = 0; what < 7; what++) {
                 text.append(' ').append(field.tell(p, what));
             }
-            for (int r = 0; r < field.rounds(); r++) {
+            for (int r = 0; r < rounds; r++) {
                 text.append(' ').append(field.had(r, p));
             }
         }

@@ -18,6 +18,57 @@ final class Fields {
         field.close();
     }
 
+    /** A field in which nobody may meet anybody, until letMeet says so. */
+    static PairedField allApart(int players) {
+        PairedField field = new PairedField(players);
+        for (int p = 0; p < players; p++) {
+            for (int q = p + 1; q < players; q++) {
+                field.apart(p, q, true);
+            }
+        }
+        return field;
+    }
+
+    static void letMeet(PairedField field, int... twoAndTwo) {
+        for (int i = 0; i < twoAndTwo.length; i += 2) {
+            field.apart(twoAndTwo[i], twoAndTwo[i + 1], false);
+        }
+    }
+
+    /** All but these go out. */
+    static void leaveAllBut(PairedField field, int... staying) {
+        for (int p = 0; p < field.players(); p++) {
+            boolean stays = false;
+            for (int s : staying) {
+                stays |= s == p;
+            }
+            if (!stays && field.isIn(p)) {
+                field.leave(p);
+            }
+        }
+    }
+
+    /** A round is paired, told and closed; results are the player and what it got, by turns. */
+    static void playRound(PairedField field, int... results) {
+        field.pair();
+        for (int i = 0; i < results.length; i += 2) {
+            field.report(results[i], results[i + 1]);
+        }
+        field.close();
+    }
+
+    /** One player has had so many byes and nothing else, and is alone in the field. */
+    static PairedField afterByes(int byes) {
+        PairedField field = new PairedField(2);
+        field.leave(1);
+        field.play(byes);
+        return field;
+    }
+
+    static boolean isOpen(PairedField field) {
+        return Check.thrownBy(() -> field.missing()).equals("nothing");
+    }
+
     static void keepApartFrom(PairedField field, int p, int... others) {
         for (int q : others) {
             field.apart(p, q, true);
